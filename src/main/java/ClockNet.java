@@ -306,30 +306,13 @@ public final class ClockNet {
         Clock to = clocks[m.to];
         if (!to.up) {
             lost++;
-        } else if (to.kind == TRANSPARENT) {
-            passOn(m);
-        } else {
-            receive(m, to, links[m.link].portAt(m.to));
-        }
-    }
-
-    private void passOn(Message m) {
-        if (m.hops >= MOST_HOPS) {
-            lost++;
             return;
         }
-        int holder = m.to;
-        int cameOver = m.link;
-        m.hops++;
-        m.correction += TICK_LENGTH;
-        for (int l = 0; l < linkCount; l++) {
-            if (l != cameOver && links[l].joins(holder)) {
-                send(m, holder, l, 1);
-            }
+        if (to.kind == TRANSPARENT) {
+            passOn(m);
+            return;
         }
-    }
-
-    private void receive(Message m, Clock to, Port p) {
+        Port p = links[m.link].portAt(m.to);
         switch (m.type) {
             case ANNOUNCE:
                 hear(m, to, p);
@@ -353,6 +336,20 @@ public final class ClockNet {
                 if (m.receiver == to.number) {
                     to.measure.closeRequest(m.number, m.time, m.correction);
                 }
+        }
+    }
+
+    private void passOn(Message m) {
+        if (m.hops >= MOST_HOPS) {
+            lost++;
+            return;
+        }
+        m.hops++;
+        m.correction += TICK_LENGTH;
+        for (int l = 0; l < linkCount; l++) {
+            if (l != m.link && links[l].joins(m.to)) {
+                send(m, m.to, l, 1);
+            }
         }
     }
 
@@ -511,10 +508,12 @@ public final class ClockNet {
             lost++;
             return;
         }
-        m.link = l;
-        m.to = links[l].across(from);
-        m.comes = now + links[l].delayFrom(from) + held;
-        line.append(m);
+        Message sent = line.rows[line.size];
+        sent.copy(m);
+        sent.link = l;
+        sent.to = links[l].across(from);
+        sent.comes = now + links[l].delayFrom(from) + held;
+        line.size++;
     }
 
     /** Who is best, how far away, and who says so. */
@@ -713,8 +712,7 @@ public final class ClockNet {
             number = n;
             own.best = n;
             own.says = n;
-            told.best = n;
-            told.says = n;
+            told.copy(own);
         }
 
         void take(int priority, int quality, int newDrift) {
@@ -836,13 +834,6 @@ public final class ClockNet {
 
         boolean holds(int i) {
             return i >= 0 && i < size;
-        }
-
-        void append(Message m) {
-            if (size < MOST_MESSAGES) {
-                rows[size].copy(m);
-                size++;
-            }
         }
 
         // The dropped row goes behind the others, to be used again.

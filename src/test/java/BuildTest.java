@@ -163,6 +163,7 @@ public final class BuildTest {
         Check.due("state before the decision", x.port(1, 0), 2);
         x.tick();
         Check.due("best after the decision", x.look(1, 0), 1);
+        Check.due("slave after the decision", x.look(1, 2), -1);
         Check.due("state after the decision", x.port(1, 0), 1);
         x.power(0, false);
         x.grade(0, 1, 1, 0);

@@ -14,8 +14,13 @@ public final class TickTest {
         slaveMeasuresAndSteers();
         errorOfFiveThousandLeans();
         errorAboveFiveThousandJumps();
+        partsOfOneCount();
+        sumIsBroughtIn();
         jumpForgetsTheLag();
         followNeedsItsSync();
+        anotherPortForgetsTheSync();
+        aSyncIsFollowedOnce();
+        powerForgetsTheLag();
         answerNeedsALag();
         sampleDropsItsRest();
         lostRequestIsRepeated();
@@ -166,6 +171,44 @@ public final class TickTest {
         Check.due("a jump after steering: adjust", z.look(1, 3), 0);
     }
 
+    /** A mean with a fraction, made by the reading after tick 16, and then an error just beyond 5000. */
+    private static void partsOfOneCount() {
+        ClockNet x = uneven(16);
+        x.set(1, 16310);
+        Check.ticks(x, 2);
+        Check.dueFloat("18: mean", x.mean(1), 1999.75f);
+        Check.dueFloat("18: sum", x.sum(1), 124.875f);
+        Check.due("18: adjust", x.look(1, 3), -374);
+        x.set(1, 22374);
+        x.tick();
+        Check.due("5000.25: its whole part is taken", x.reading(1), 18000);
+        Check.dueFloat("5000.25: sum", x.sum(1), 0.0f);
+        ClockNet y = uneven(16);
+        y.set(1, 16314);
+        Check.ticks(y, 2);
+        Check.dueFloat("18: mean", y.mean(1), 2000.25f);
+        Check.due("18: adjust", y.look(1, 3), -375);
+        y.set(1, 12375);
+        y.tick();
+        Check.due("-5000.25: its whole part is taken", y.reading(1), 18000);
+        Check.dueFloat("-5000.25: sum", y.sum(1), 0.0f);
+    }
+
+    private static void sumIsBroughtIn() {
+        ClockNet x = uneven(16);
+        x.set(1, 17516);
+        x.tick();
+        Check.dueFloat("200.25 is brought in", x.sum(1), 200.0f);
+        ClockNet y = uneven(16);
+        y.set(1, 11108);
+        y.tick();
+        Check.dueFloat("-200.25 is brought in", y.sum(1), -200.0f);
+        ClockNet z = uneven(16);
+        z.set(1, 17508);
+        z.tick();
+        Check.dueFloat("199.75 is not", z.sum(1), 199.75f);
+    }
+
     private static void jumpForgetsTheLag() {
         ClockNet x = uneven(14);
         x.set(1, 18001);
@@ -205,6 +248,79 @@ public final class TickTest {
         Check.ticks(y, 3);
         Check.dueFloat("15: has a mean", y.mean(1), 2000.0f);
         Check.due("15: a follow of another number does not steer", y.look(1, 3), 0);
+    }
+
+    private static void loseOn(ClockNet x, int type, int number, int link) {
+        for (int i = 0; i < x.count(0); i++) {
+            if (x.message(i, 0) == type && x.message(i, 3) == number && x.message(i, 5) == link) {
+                x.lose(i);
+                return;
+            }
+        }
+        Check.tell("no message of type " + type + " with number " + number + " is on link " + link);
+    }
+
+    /** Clock 1 keeps sync 14 open when its slave port changes: the follow that comes over the other link finds none. */
+    private static void anotherPortForgetsTheSync() {
+        ClockNet x = new ClockNet();
+        x.clock(1, 10, 6, 0);
+        x.clock(1, 20, 6, 0);
+        x.link(0, 1, 1, 1);
+        x.link(0, 1, 5, 1);
+        Check.ticks(x, 14);
+        loseOn(x, FOLLOW, 14, 0);
+        loseOn(x, SYNC, 14, 1);
+        loseOn(x, SYNC, 12, 1);
+        loseOn(x, FOLLOW, 12, 1);
+        x.tick();
+        Check.due("15: slave", x.look(1, 2), 0);
+        x.join(0, false);
+        x.tick();
+        Check.due("16: slave", x.look(1, 2), 1);
+        loseOn(x, FOLLOW, 16, 1);
+        Check.ticks(x, 2);
+        Check.due("18: request open", x.look(1, 5), 1);
+        loseOn(x, FOLLOW, 18, 1);
+        Check.ticks(x, 6);
+        Check.due("24: it was answered", x.look(1, 5), 0);
+        Check.due("24: but there was no lag", x.look(1, 4), 0);
+    }
+
+    /** Clock 2 hears each sync of clock 0 twice, since clock 0 has two links to the transparent clock. */
+    private static void aSyncIsFollowedOnce() {
+        ClockNet x = new ClockNet();
+        x.clock(1, 10, 6, 0);
+        x.clock(2, 0, 0, 0);
+        x.clock(0, 20, 6, 0);
+        x.link(0, 1, 1, 1);
+        x.link(0, 1, 3, 1);
+        x.link(1, 2, 1, 1);
+        Check.ticks(x, 22);
+        loseOn(x, SYNC, 22, 1);
+        Check.ticks(x, 2);
+        loseOn(x, SYNC, 24, 0);
+        x.tick();
+        float sum = x.sum(2);
+        int adjust = x.look(2, 3);
+        Check.due("25: it is steered", adjust != 0 ? 1 : 0, 1);
+        Check.ticks(x, 2);
+        Check.dueFloat("27: sum", x.sum(2), sum);
+        Check.due("27: adjust", x.look(2, 3), adjust);
+    }
+
+    private static void powerForgetsTheLag() {
+        ClockNet x = uneven(15);
+        x.power(1, false);
+        x.power(1, true);
+        for (int t = 16; t <= 26; t++) {
+            while (Check.find(x, FOLLOW, 0) >= 0) {
+                Check.loseOne(x, FOLLOW, 0);
+            }
+            Check.due(t + ": no mean", x.look(1, 4), 0);
+            x.tick();
+        }
+        Check.due("26: the answer to 22 came", x.message(Check.find(x, REQUEST, 1), 3), 26);
+        Check.due("26: no mean without a lag", x.look(1, 4), 0);
     }
 
     private static void answerNeedsALag() {
