@@ -1,6 +1,6 @@
 import java.util.NoSuchElementException;
 
-/** What the tests share: it prints each answer that is not the one that is due, and ends with exit code 1 if there was one. */
+/** What the tests share: each answer that is not the one that is due is printed, and one such makes exit code 1. */
 final class Check {
     private static int made = 0;
     private static int wrong = 0;
