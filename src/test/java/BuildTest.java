@@ -137,7 +137,7 @@ public final class BuildTest {
         x.clock(0, 1, 1, 0);
         x.clock(0, 2, 1, 0);
         x.link(0, 1, 2, 5);
-        Check.ticks(x, 2);
+        Nets.ticks(x, 2);
         Check.due("sender of the first message", x.message(0, 1), 0);
         Check.due("it goes to", x.message(0, 6), 1);
         Check.due("it comes", x.message(0, 7), 4);
@@ -151,7 +151,7 @@ public final class BuildTest {
         x.clock(0, 10, 6, 0);
         x.clock(0, 20, 6, 0);
         x.link(0, 1, 1, 1);
-        Check.ticks(x, 6);
+        Nets.ticks(x, 6);
         return x;
     }
 
@@ -168,7 +168,7 @@ public final class BuildTest {
         x.power(0, false);
         x.grade(0, 1, 1, 0);
         x.power(0, true);
-        Check.ticks(x, 6);
+        Nets.ticks(x, 6);
         Check.due("numbers given while it was down", x.look(1, 0), 0);
         Check.due("priority heard", x.heard(1, 0, 0), 1);
         Check.due("class heard", x.heard(1, 0, 1), 1);

@@ -23,7 +23,7 @@ public final class ChangeTest {
         x.clock(0, 10, 6, 0);
         x.clock(0, 20, 6, 0);
         x.link(0, 1, 3, 1);
-        Check.ticks(x, 15);
+        Nets.ticks(x, 15);
         Check.due("before: slave", x.port(1, 0), 2);
         Check.due("before: adjust", x.look(1, 3), -312);
         Check.dueFloat("before: mean", x.mean(1), 2000.0f);
@@ -55,7 +55,7 @@ public final class ChangeTest {
         Check.due("down: messages stay on links", x.count(0), onLinks);
         Check.due("down: other clock keeps its port", x.port(0, 0), 1);
         Check.due("down: nothing is lost yet", x.count(1), 0);
-        Check.ticks(x, 1);
+        Nets.ticks(x, 1);
         isFresh("down and a tick later", x, 1);
     }
 
@@ -64,9 +64,9 @@ public final class ChangeTest {
         x.power(1, false);
         x.power(1, true);
         isFresh("down and up", x, 1);
-        Check.ticks(x, 1);
+        Nets.ticks(x, 1);
         Check.due("up: master again", x.port(1, 0), 1);
-        Check.ticks(x, 3);
+        Nets.ticks(x, 3);
         Check.due("up: slave when an announcement comes", x.port(1, 0), 2);
         Check.due("up: no mean yet", x.look(1, 4), 0);
     }
@@ -77,7 +77,7 @@ public final class ChangeTest {
         x.clock(0, 20, 6, 30);
         x.link(0, 1, 1, 1);
         x.power(1, false);
-        Check.ticks(x, 2);
+        Nets.ticks(x, 2);
         Check.due("a clock that is down sends nothing", x.count(0), 2);
         Check.due("messages that came to it", x.tick(), 2);
         Check.due("are lost", x.count(1), 2);
@@ -88,7 +88,7 @@ public final class ChangeTest {
         x.link(2, 3, 1, 1);
         x.power(2, false);
         x.tick();
-        Check.due("a master of the other link sends", Check.find(x, 1, 3) >= 0 ? 1 : 0, 1);
+        Check.due("a master of the other link sends", Nets.find(x, 1, 3) >= 0 ? 1 : 0, 1);
         int lost = x.count(1);
         Check.due("to both", x.tick(), 6);
         Check.due("a transparent clock that is down loses", x.count(1), lost + 6);
@@ -138,9 +138,9 @@ public final class ChangeTest {
         x.tick();
         x.join(0, true);
         Check.due("up: listening till a decision", x.port(1, 0), 0);
-        Check.ticks(x, 1);
+        Nets.ticks(x, 1);
         Check.due("up: master", x.port(1, 0), 1);
-        Check.ticks(x, 6);
+        Nets.ticks(x, 6);
         Check.due("up: slave again", x.port(1, 0), 2);
     }
 
@@ -150,7 +150,7 @@ public final class ChangeTest {
         x.clock(1, 20, 6, 0);
         x.link(0, 1, 1, 1);
         x.link(0, 1, 1, 1);
-        Check.ticks(x, 12);
+        Nets.ticks(x, 12);
         Check.due("slave on the lowest link", x.look(1, 2), 0);
         Check.due("has a mean", x.look(1, 4), 1);
         Check.due("on links", x.count(0), 6);
@@ -180,7 +180,7 @@ public final class ChangeTest {
         x.clock(0, 20, 6, 0);
         x.link(0, 1, 1, 1);
         Check.noSuch("none to lose", () -> x.lose(0));
-        Check.ticks(x, 2);
+        Nets.ticks(x, 2);
         Check.due("on links", x.count(0), 4);
         x.lose(1);
         Check.due("on links after lose", x.count(0), 3);

@@ -2,10 +2,26 @@ import java.util.NoSuchElementException;
 
 /** What the tests share: each answer that is not the one that is due is printed, and one such makes exit code 1. */
 final class Check {
+    private static String sentence = "";
     private static int made = 0;
     private static int wrong = 0;
 
     private Check() {
+    }
+
+    /** Runs the test of one sentence of the document; whatever it finds wrong is told together with that sentence. */
+    static void sentence(String words, Runnable test) {
+        sentence = words;
+        int before = made;
+        try {
+            test.run();
+        } catch (RuntimeException e) {
+            tell("threw " + e);
+        }
+        if (made == before) {
+            tell("nothing was checked");
+        }
+        sentence = "";
     }
 
     static void due(String call, long got, long want) {
@@ -22,6 +38,13 @@ final class Check {
         }
     }
 
+    static void holds(String what, boolean got) {
+        made++;
+        if (!got) {
+            tell("it does not hold: " + what);
+        }
+    }
+
     static void noSuch(String call, Runnable run) {
         refuses(call, NoSuchElementException.class, run);
     }
@@ -34,7 +57,7 @@ final class Check {
         refuses(call, IllegalStateException.class, run);
     }
 
-    private static void refuses(String call, Class<?> want, Runnable run) {
+    static void refuses(String call, Class<?> want, Runnable run) {
         made++;
         Class<?> got = null;
         try {
@@ -49,33 +72,7 @@ final class Check {
 
     static void tell(String text) {
         wrong++;
-        System.out.println(text);
-    }
-
-    static void ticks(ClockNet x, int n) {
-        for (int i = 0; i < n; i++) {
-            x.tick();
-        }
-    }
-
-    /** The place of the first message on links with this type and sender, or -1. */
-    static int find(ClockNet x, int type, int sender) {
-        for (int i = 0; i < x.count(0); i++) {
-            if (x.message(i, 0) == type && x.message(i, 1) == sender) {
-                return i;
-            }
-        }
-        return -1;
-    }
-
-    /** Loses the first message on links with this type and sender, which must be there. */
-    static void loseOne(ClockNet x, int type, int sender) {
-        int i = find(x, type, sender);
-        if (i < 0) {
-            tell("no message of type " + type + " from " + sender + " is on links");
-        } else {
-            x.lose(i);
-        }
+        System.out.println(sentence.isEmpty() ? text : "'" + sentence + "': " + text);
     }
 
     static void end(String name) {

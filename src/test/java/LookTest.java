@@ -31,7 +31,7 @@ public final class LookTest {
         x.link(0, 1, 3, 1);
         x.link(1, 0, 1, 3);
         x.link(0, 2, 1, 1);
-        Check.ticks(x, ticks);
+        Nets.ticks(x, ticks);
         return x;
     }
 
@@ -40,7 +40,7 @@ public final class LookTest {
         Check.due("listening at first", x.port(0, 0), 0);
         x.tick();
         Check.due("master", x.port(1, 0), 1);
-        Check.ticks(x, 6);
+        Nets.ticks(x, 6);
         Check.due("master", x.port(0, 0), 1);
         Check.due("slave", x.port(1, 0), 2);
         Check.due("passive", x.port(1, 1), 3);
@@ -175,12 +175,12 @@ public final class LookTest {
 
     private static void messageTellsItsParts() {
         ClockNet x = net(10);
-        int r = Check.find(x, 3, 1);
+        int r = Nets.find(x, 3, 1);
         int[] due = {3, 1, 0, 10, 0, 0, 0, 11};
         for (int what = 0; what < 8; what++) {
             Check.due("request, what " + what, x.message(r, what), due[what]);
         }
-        int s = Check.find(x, 1, 0);
+        int s = Nets.find(x, 1, 0);
         int[] sync = {1, 0, 9, 8, 0, 0, 1, 11};
         for (int what = 0; what < 8; what++) {
             Check.due("sync, what " + what, x.message(s, what), sync[what]);
@@ -202,7 +202,7 @@ public final class LookTest {
     private static void stampTellsLongs() {
         ClockNet x = net(0);
         x.set(0, 1000000000000L);
-        Check.ticks(x, 2);
+        Nets.ticks(x, 2);
         Check.due("type", x.message(1, 0), 2);
         Check.due("time", x.stamp(1, false), 1000000002000L);
         Check.due("correction", x.stamp(1, true), 0);
@@ -215,7 +215,7 @@ public final class LookTest {
         y.clock(0, 20, 6, 0);
         y.link(0, 1, 1, 1);
         y.link(1, 2, 1, 1);
-        Check.ticks(y, 3);
+        Nets.ticks(y, 3);
         Check.due("correction of what is passed on", y.stamp(1, true), 1000);
         Check.due("time of what is passed on", y.stamp(1, false), 2000);
     }

@@ -1,11 +1,5 @@
 /** Promise 9: what happens in a tick, and in which order. */
 public final class TickTest {
-    private static final int ANNOUNCE = 0;
-    private static final int SYNC = 1;
-    private static final int FOLLOW = 2;
-    private static final int REQUEST = 3;
-    private static final int ANSWER = 4;
-
     private TickTest() {
     }
 
@@ -68,54 +62,44 @@ public final class TickTest {
         Check.due("nothing is sent at tick 1", x.count(0), 0);
         x.tick();
         Check.due("syncs and follows at tick 2", x.count(0), 8);
-        isMessage(x, 0, SYNC, 0, 2, 0);
-        isMessage(x, 1, FOLLOW, 0, 2, 2002);
-        isMessage(x, 3, FOLLOW, 0, 2, 2002);
+        isMessage(x, 0, Nets.SYNC, 0, 2, 0);
+        isMessage(x, 1, Nets.FOLLOW, 0, 2, 2002);
+        isMessage(x, 3, Nets.FOLLOW, 0, 2, 2002);
         Check.due("by link", x.message(0, 5), 0);
         Check.due("by link", x.message(2, 5), 1);
-        isMessage(x, 4, SYNC, 1, 2, 0);
-        isMessage(x, 5, FOLLOW, 1, 2, 2004);
+        isMessage(x, 4, Nets.SYNC, 1, 2, 0);
+        isMessage(x, 5, Nets.FOLLOW, 1, 2, 2004);
         x.tick();
         Check.due("nothing is sent at tick 3", x.count(0), 8);
         x.tick();
         Check.due("announces at tick 4", x.count(0), 20);
-        isMessage(x, 8, ANNOUNCE, 0, 0, 0);
-        isMessage(x, 9, SYNC, 0, 4, 0);
-        isMessage(x, 10, FOLLOW, 0, 4, 4004);
-        isMessage(x, 17, ANNOUNCE, 1, 0, 0);
-        isMessage(x, 19, FOLLOW, 1, 4, 4008);
-    }
-
-    /** All drifts are 0: a sync comes 3 ticks late, a request 1 tick late. */
-    private static ClockNet uneven(int ticks) {
-        ClockNet x = new ClockNet();
-        x.clock(0, 10, 6, 0);
-        x.clock(0, 20, 6, 0);
-        x.link(0, 1, 3, 1);
-        Check.ticks(x, ticks);
-        return x;
+        isMessage(x, 8, Nets.ANNOUNCE, 0, 0, 0);
+        isMessage(x, 9, Nets.SYNC, 0, 4, 0);
+        isMessage(x, 10, Nets.FOLLOW, 0, 4, 4004);
+        isMessage(x, 17, Nets.ANNOUNCE, 1, 0, 0);
+        isMessage(x, 19, Nets.FOLLOW, 1, 4, 4008);
     }
 
     private static void slaveMeasuresAndSteers() {
-        ClockNet x = uneven(6);
+        ClockNet x = Nets.uneven(6);
         Check.due("6: still a master", x.port(1, 0), 1);
         x.tick();
         Check.due("7: slave by the announcement", x.port(1, 0), 2);
-        Check.ticks(x, 2);
+        Nets.ticks(x, 2);
         Check.due("9: no request yet", x.look(1, 5), 0);
         x.tick();
         Check.due("10: request open", x.look(1, 5), 1);
-        int r = Check.find(x, REQUEST, 1);
+        int r = Nets.find(x, Nets.REQUEST, 1);
         Check.due("10: receiver of the request", x.message(r, 2), 0);
         Check.due("10: number of the request", x.message(r, 3), 10);
         Check.due("10: time of the request", x.stamp(r, false), 0);
         x.tick();
-        int a = Check.find(x, ANSWER, 0);
+        int a = Nets.find(x, Nets.ANSWER, 0);
         Check.due("11: receiver of the answer", x.message(a, 2), 1);
         Check.due("11: number of the answer", x.message(a, 3), 10);
         Check.due("11: time of the answer", x.stamp(a, false), 11000);
         Check.due("11: it stands before what masters send", x.message(a, 7), 14);
-        Check.ticks(x, 2);
+        Nets.ticks(x, 2);
         Check.due("13: no mean yet", x.look(1, 4), 0);
         x.tick();
         Check.dueFloat("14: mean", x.mean(1), 2000.0f);
@@ -137,13 +121,13 @@ public final class TickTest {
     }
 
     private static void errorOfFiveThousandLeans() {
-        ClockNet x = uneven(14);
+        ClockNet x = Nets.uneven(14);
         x.set(1, 18000);
         x.tick();
         Check.due("5000: reading", x.reading(1), 19000);
         Check.dueFloat("5000: sum brought in", x.sum(1), 200.0f);
         Check.due("5000: adjust brought in", x.look(1, 3), -400);
-        ClockNet y = uneven(14);
+        ClockNet y = Nets.uneven(14);
         y.set(1, 8000);
         y.tick();
         Check.due("-5000: reading", y.reading(1), 9000);
@@ -152,19 +136,19 @@ public final class TickTest {
     }
 
     private static void errorAboveFiveThousandJumps() {
-        ClockNet x = uneven(14);
+        ClockNet x = Nets.uneven(14);
         x.set(1, 18001);
         x.tick();
         Check.due("5001: reading", x.reading(1), 14000);
         Check.dueFloat("5001: sum", x.sum(1), 0.0f);
         Check.due("5001: adjust", x.look(1, 3), 0);
         Check.dueFloat("5001: mean stays", x.mean(1), 2000.0f);
-        ClockNet y = uneven(14);
+        ClockNet y = Nets.uneven(14);
         y.set(1, 7999);
         y.tick();
         Check.due("-5001: reading", y.reading(1), 14000);
         Check.due("-5001: adjust", y.look(1, 3), 0);
-        ClockNet z = uneven(16);
+        ClockNet z = Nets.uneven(16);
         z.set(1, 80000);
         z.tick();
         Check.dueFloat("a jump after steering: sum", z.sum(1), 0.0f);
@@ -173,9 +157,9 @@ public final class TickTest {
 
     /** A mean with a fraction, made by the reading after tick 16, and then an error just beyond 5000. */
     private static void partsOfOneCount() {
-        ClockNet x = uneven(16);
+        ClockNet x = Nets.uneven(16);
         x.set(1, 16310);
-        Check.ticks(x, 2);
+        Nets.ticks(x, 2);
         Check.dueFloat("18: mean", x.mean(1), 1999.75f);
         Check.dueFloat("18: sum", x.sum(1), 124.875f);
         Check.due("18: adjust", x.look(1, 3), -374);
@@ -183,9 +167,9 @@ public final class TickTest {
         x.tick();
         Check.due("5000.25: its whole part is taken", x.reading(1), 18000);
         Check.dueFloat("5000.25: sum", x.sum(1), 0.0f);
-        ClockNet y = uneven(16);
+        ClockNet y = Nets.uneven(16);
         y.set(1, 16314);
-        Check.ticks(y, 2);
+        Nets.ticks(y, 2);
         Check.dueFloat("18: mean", y.mean(1), 2000.25f);
         Check.due("18: adjust", y.look(1, 3), -375);
         y.set(1, 12375);
@@ -195,69 +179,49 @@ public final class TickTest {
     }
 
     private static void sumIsBroughtIn() {
-        ClockNet x = uneven(16);
+        ClockNet x = Nets.uneven(16);
         x.set(1, 17516);
         x.tick();
         Check.dueFloat("200.25 is brought in", x.sum(1), 200.0f);
-        ClockNet y = uneven(16);
+        ClockNet y = Nets.uneven(16);
         y.set(1, 11108);
         y.tick();
         Check.dueFloat("-200.25 is brought in", y.sum(1), -200.0f);
-        ClockNet z = uneven(16);
+        ClockNet z = Nets.uneven(16);
         z.set(1, 17508);
         z.tick();
         Check.dueFloat("199.75 is not", z.sum(1), 199.75f);
     }
 
     private static void jumpForgetsTheLag() {
-        ClockNet x = uneven(14);
+        ClockNet x = Nets.uneven(14);
         x.set(1, 18001);
         x.tick();
-        loseNumbered(x, FOLLOW, 14);
-        Check.ticks(x, 2);
+        Nets.loseNumbered(x, Nets.FOLLOW, 14);
+        Nets.ticks(x, 2);
         Check.due("17: the answer is on its way", x.look(1, 5), 1);
-        loseNumbered(x, FOLLOW, 16);
+        Nets.loseNumbered(x, Nets.FOLLOW, 16);
         Check.due("17: what comes next", x.message(0, 7), 18);
         x.tick();
         Check.dueFloat("18: no sample without a lag", x.mean(1), 2000.0f);
     }
 
-    private static void loseNumbered(ClockNet x, int type, int number) {
-        for (int i = 0; i < x.count(0); i++) {
-            if (x.message(i, 0) == type && x.message(i, 3) == number) {
-                x.lose(i);
-                return;
-            }
-        }
-        Check.tell("no message of type " + type + " with number " + number + " is on links");
-    }
-
     private static void followNeedsItsSync() {
-        ClockNet x = uneven(12);
-        Check.loseOne(x, SYNC, 0);
-        Check.loseOne(x, SYNC, 0);
-        Check.ticks(x, 2);
+        ClockNet x = Nets.uneven(12);
+        Nets.loseOne(x, Nets.SYNC, 0);
+        Nets.loseOne(x, Nets.SYNC, 0);
+        Nets.ticks(x, 2);
         Check.dueFloat("14: mean by the lag of sync 8", x.mean(1), 2000.0f);
         x.tick();
         Check.due("15: a follow without its sync does not steer", x.look(1, 3), 0);
-        Check.ticks(x, 2);
+        Nets.ticks(x, 2);
         Check.due("17: the next pair does", x.look(1, 3), -312);
-        ClockNet y = uneven(12);
-        loseNumbered(y, FOLLOW, 10);
-        loseNumbered(y, SYNC, 12);
-        Check.ticks(y, 3);
+        ClockNet y = Nets.uneven(12);
+        Nets.loseNumbered(y, Nets.FOLLOW, 10);
+        Nets.loseNumbered(y, Nets.SYNC, 12);
+        Nets.ticks(y, 3);
         Check.dueFloat("15: has a mean", y.mean(1), 2000.0f);
         Check.due("15: a follow of another number does not steer", y.look(1, 3), 0);
-    }
-
-    private static void loseOn(ClockNet x, int type, int number, int link) {
-        for (int i = 0; i < x.count(0); i++) {
-            if (x.message(i, 0) == type && x.message(i, 3) == number && x.message(i, 5) == link) {
-                x.lose(i);
-                return;
-            }
-        }
-        Check.tell("no message of type " + type + " with number " + number + " is on link " + link);
     }
 
     /** Clock 1 keeps sync 14 open when its slave port changes: the follow that comes over the other link finds none. */
@@ -267,21 +231,21 @@ public final class TickTest {
         x.clock(1, 20, 6, 0);
         x.link(0, 1, 1, 1);
         x.link(0, 1, 5, 1);
-        Check.ticks(x, 14);
-        loseOn(x, FOLLOW, 14, 0);
-        loseOn(x, SYNC, 14, 1);
-        loseOn(x, SYNC, 12, 1);
-        loseOn(x, FOLLOW, 12, 1);
+        Nets.ticks(x, 14);
+        Nets.loseOn(x, Nets.FOLLOW, 14, 0);
+        Nets.loseOn(x, Nets.SYNC, 14, 1);
+        Nets.loseOn(x, Nets.SYNC, 12, 1);
+        Nets.loseOn(x, Nets.FOLLOW, 12, 1);
         x.tick();
         Check.due("15: slave", x.look(1, 2), 0);
         x.join(0, false);
         x.tick();
         Check.due("16: slave", x.look(1, 2), 1);
-        loseOn(x, FOLLOW, 16, 1);
-        Check.ticks(x, 2);
+        Nets.loseOn(x, Nets.FOLLOW, 16, 1);
+        Nets.ticks(x, 2);
         Check.due("18: request open", x.look(1, 5), 1);
-        loseOn(x, FOLLOW, 18, 1);
-        Check.ticks(x, 6);
+        Nets.loseOn(x, Nets.FOLLOW, 18, 1);
+        Nets.ticks(x, 6);
         Check.due("24: it was answered", x.look(1, 5), 0);
         Check.due("24: but there was no lag", x.look(1, 4), 0);
     }
@@ -295,99 +259,99 @@ public final class TickTest {
         x.link(0, 1, 1, 1);
         x.link(0, 1, 3, 1);
         x.link(1, 2, 1, 1);
-        Check.ticks(x, 22);
-        loseOn(x, SYNC, 22, 1);
-        Check.ticks(x, 2);
-        loseOn(x, SYNC, 24, 0);
+        Nets.ticks(x, 22);
+        Nets.loseOn(x, Nets.SYNC, 22, 1);
+        Nets.ticks(x, 2);
+        Nets.loseOn(x, Nets.SYNC, 24, 0);
         x.tick();
         float sum = x.sum(2);
         int adjust = x.look(2, 3);
         Check.due("25: it is steered", adjust != 0 ? 1 : 0, 1);
-        Check.ticks(x, 2);
+        Nets.ticks(x, 2);
         Check.dueFloat("27: sum", x.sum(2), sum);
         Check.due("27: adjust", x.look(2, 3), adjust);
     }
 
     private static void powerForgetsTheLag() {
-        ClockNet x = uneven(15);
+        ClockNet x = Nets.uneven(15);
         x.power(1, false);
         x.power(1, true);
         for (int t = 16; t <= 26; t++) {
-            while (Check.find(x, FOLLOW, 0) >= 0) {
-                Check.loseOne(x, FOLLOW, 0);
+            while (Nets.find(x, Nets.FOLLOW, 0) >= 0) {
+                Nets.loseOne(x, Nets.FOLLOW, 0);
             }
             Check.due(t + ": no mean", x.look(1, 4), 0);
             x.tick();
         }
-        Check.due("26: the answer to 22 came", x.message(Check.find(x, REQUEST, 1), 3), 26);
+        Check.due("26: the answer to 22 came", x.message(Nets.find(x, Nets.REQUEST, 1), 3), 26);
         Check.due("26: no mean without a lag", x.look(1, 4), 0);
     }
 
     private static void answerNeedsALag() {
-        ClockNet x = uneven(8);
-        while (Check.find(x, FOLLOW, 0) >= 0) {
-            Check.loseOne(x, FOLLOW, 0);
+        ClockNet x = Nets.uneven(8);
+        while (Nets.find(x, Nets.FOLLOW, 0) >= 0) {
+            Nets.loseOne(x, Nets.FOLLOW, 0);
         }
-        Check.ticks(x, 2);
-        Check.loseOne(x, FOLLOW, 0);
-        Check.ticks(x, 2);
-        Check.loseOne(x, FOLLOW, 0);
+        Nets.ticks(x, 2);
+        Nets.loseOne(x, Nets.FOLLOW, 0);
+        Nets.ticks(x, 2);
+        Nets.loseOne(x, Nets.FOLLOW, 0);
         x.tick();
         Check.due("13: request open", x.look(1, 5), 1);
         x.tick();
-        Check.due("14: the answer came", Check.find(x, REQUEST, 1) >= 0 ? 1 : 0, 1);
+        Check.due("14: the answer came", Nets.find(x, Nets.REQUEST, 1) >= 0 ? 1 : 0, 1);
         Check.due("14: no mean without a lag", x.look(1, 4), 0);
     }
 
     private static void sampleDropsItsRest() {
-        ClockNet x = uneven(9);
+        ClockNet x = Nets.uneven(9);
         x.set(1, 8999);
         x.tick();
-        Check.ticks(x, 4);
+        Nets.ticks(x, 4);
         // The answer's time was 11000 and the request's 9999: BACK 1001; sync 10 has lag 12999 - 10000: 2999.
         Check.dueFloat("even sum", x.mean(1), 2000.0f);
-        ClockNet y = uneven(12);
+        ClockNet y = Nets.uneven(12);
         y.set(1, 11999);
-        Check.ticks(y, 2);
+        Nets.ticks(y, 2);
         // Here the request's time was 10000: BACK 1000; 2999 + 1000 is odd.
         Check.dueFloat("rest dropped", y.mean(1), 1999.0f);
-        ClockNet z = uneven(12);
+        ClockNet z = Nets.uneven(12);
         z.set(1, 7999);
-        Check.ticks(z, 2);
+        Nets.ticks(z, 2);
         Check.dueFloat("rest dropped toward 0", z.mean(1), 0.0f);
         Check.due("which is a mean", z.look(1, 4), 1);
     }
 
     private static void lostRequestIsRepeated() {
-        ClockNet x = uneven(10);
-        Check.loseOne(x, REQUEST, 1);
-        Check.ticks(x, 63);
+        ClockNet x = Nets.uneven(10);
+        Nets.loseOne(x, Nets.REQUEST, 1);
+        Nets.ticks(x, 63);
         Check.due("73: the request is still open", x.look(1, 5), 1);
-        Check.due("73: none was sent", Check.find(x, REQUEST, 1), -1);
+        Check.due("73: none was sent", Nets.find(x, Nets.REQUEST, 1), -1);
         Check.due("73: no mean", x.look(1, 4), 0);
         x.tick();
-        int r = Check.find(x, REQUEST, 1);
+        int r = Nets.find(x, Nets.REQUEST, 1);
         Check.due("74: sent again", x.message(r, 3), 74);
-        Check.ticks(x, 4);
+        Nets.ticks(x, 4);
         Check.due("78: answered", x.look(1, 4), 1);
     }
 
     private static void oldAnswerIsNotTaken() {
-        ClockNet x = uneven(11);
-        Check.due("an answer is on its way", Check.find(x, ANSWER, 0) >= 0 ? 1 : 0, 1);
+        ClockNet x = Nets.uneven(11);
+        Check.due("an answer is on its way", Nets.find(x, Nets.ANSWER, 0) >= 0 ? 1 : 0, 1);
         x.power(1, false);
         x.power(1, true);
-        Check.ticks(x, 4);
+        Nets.ticks(x, 4);
         Check.due("the answer to a forgotten request", x.look(1, 4), 0);
-        ClockNet y = chain(4);
-        Check.ticks(y, 15);
+        ClockNet y = Nets.chain(4);
+        Nets.ticks(y, 15);
         Check.due("15: request 14 is open", y.look(5, 5), 1);
         y.power(5, false);
         y.power(5, true);
-        Check.ticks(y, 17);
+        Nets.ticks(y, 17);
         Check.due("32: the answer to 14 does not close request 18", y.look(5, 5), 1);
         Check.due("32: nor makes a mean", y.look(5, 4), 0);
-        Check.ticks(y, 3);
+        Nets.ticks(y, 3);
         Check.due("35: request 18 is open", y.look(5, 5), 1);
         y.tick();
         Check.due("36: it is answered", y.look(5, 5), 0);
@@ -399,10 +363,10 @@ public final class TickTest {
         x.clock(0, 10, 6, 0);
         x.clock(0, 20, 6, 0);
         x.link(0, 1, 1, 1);
-        Check.ticks(x, 5);
+        Nets.ticks(x, 5);
         Check.due("heard at", x.heard(1, 0, 5), 5);
         x.power(0, false);
-        Check.ticks(x, 11);
+        Nets.ticks(x, 11);
         Check.due("11 ticks old", x.heard(1, 0, 5), 5);
         Check.due("still a slave", x.port(1, 0), 2);
         x.tick();
@@ -416,7 +380,7 @@ public final class TickTest {
         x.clock(0, priority0, class0, 0);
         x.clock(0, priority1, class1, 0);
         x.link(0, 1, 1, 1);
-        Check.ticks(x, 5);
+        Nets.ticks(x, 5);
         Check.due("both agree", x.look(0, 0), x.look(1, 0));
         return x.look(0, 0);
     }
@@ -429,72 +393,58 @@ public final class TickTest {
         Check.due("then number", bestOf(1, 1, 1, 1), 0);
     }
 
-    /** Clocks 0, 2 and 3 round the transparent clock 1. */
-    private static ClockNet star(int ticks) {
-        ClockNet x = new ClockNet();
-        x.clock(0, 10, 6, 0);
-        x.clock(2, 0, 0, 0);
-        x.clock(0, 20, 6, 0);
-        x.clock(0, 30, 6, 0);
-        x.link(0, 1, 1, 1);
-        x.link(1, 2, 1, 1);
-        x.link(1, 3, 1, 1);
-        Check.ticks(x, ticks);
-        return x;
-    }
-
     private static void sameSenderReplacesItsGrade() {
-        ClockNet x = star(10);
+        ClockNet x = Nets.star(10);
         Check.due("heard priority", x.heard(3, 2, 0), 10);
         x.grade(0, 15, 6, 0);
-        Check.ticks(x, 5);
+        Nets.ticks(x, 5);
         Check.due("a worse grade of the same sender", x.heard(3, 2, 0), 15);
         Check.due("heard at", x.heard(3, 2, 5), 15);
     }
 
     private static void worseStrangerIsNotHeard() {
-        ClockNet x = star(7);
+        ClockNet x = Nets.star(7);
         Check.due("7: the best of those that came", x.heard(3, 2, 2), 0);
         Check.due("7: at clock 0 the better of two", x.heard(0, 0, 2), 2);
         Check.due("7: at clock 2 the better of two", x.heard(2, 1, 2), 0);
-        ClockNet y = star(0);
+        ClockNet y = Nets.star(0);
         y.grade(0, 40, 6, 0);
         y.grade(3, 15, 6, 0);
-        Check.ticks(y, 7);
+        Nets.ticks(y, 7);
         Check.due("7: a better stranger that comes behind", y.heard(0, 0, 2), 3);
     }
 
     private static void syncOfAStrangerIsNotTaken() {
-        ClockNet x = star(12);
+        ClockNet x = Nets.star(12);
         x.grade(3, 1, 1, 0);
         x.set(3, 9000000);
-        Check.ticks(x, 2);
-        Check.due("14: clock 3 sends a sync", Check.find(x, SYNC, 3) >= 0 ? 1 : 0, 1);
-        Check.ticks(x, 3);
+        Nets.ticks(x, 2);
+        Check.due("14: clock 3 sends a sync", Nets.find(x, Nets.SYNC, 3) >= 0 ? 1 : 0, 1);
+        Nets.ticks(x, 3);
         Check.due("17: clock 2 has a mean", x.look(2, 4), 1);
         Check.due("17: it follows clock 0 still", x.heard(2, 1, 4), 0);
         Check.due("17: and is not steered by clock 3", x.reading(2), 17000);
     }
 
     private static void onlyTheReceiverAnswersAsMaster() {
-        ClockNet x = star(10);
+        ClockNet x = Nets.star(10);
         x.grade(3, 1, 1, 0);
-        Check.ticks(x, 3);
+        Nets.ticks(x, 3);
         Check.due("13: clock 3 is a master", x.port(3, 2), 1);
-        Check.due("13: but not the receiver", Check.find(x, ANSWER, 3), -1);
-        Check.due("13: clock 0 answers", Check.find(x, ANSWER, 0) >= 0 ? 1 : 0, 1);
-        ClockNet y = star(10);
+        Check.due("13: but not the receiver", Nets.find(x, Nets.ANSWER, 3), -1);
+        Check.due("13: clock 0 answers", Nets.find(x, Nets.ANSWER, 0) >= 0 ? 1 : 0, 1);
+        ClockNet y = Nets.star(10);
         y.grade(0, 255, 255, 0);
-        Check.ticks(y, 3);
+        Nets.ticks(y, 3);
         Check.due("13: clock 0 is a slave", y.port(0, 0), 2);
-        Check.due("13: and does not answer", Check.find(y, ANSWER, 0), -1);
+        Check.due("13: and does not answer", Nets.find(y, Nets.ANSWER, 0), -1);
     }
 
     private static void answerToAnotherIsNotTaken() {
-        ClockNet x = star(15);
+        ClockNet x = Nets.star(15);
         // Both asked at tick 10: with clock 2's answer lost on its last link, only clock 3's comes to it.
         for (int i = 0; i < x.count(0); i++) {
-            if (x.message(i, 0) == ANSWER && x.message(i, 2) == 2 && x.message(i, 6) == 2) {
+            if (x.message(i, 0) == Nets.ANSWER && x.message(i, 2) == 2 && x.message(i, 6) == 2) {
                 x.lose(i);
                 break;
             }
@@ -507,11 +457,11 @@ public final class TickTest {
     }
 
     private static void anotherThatSaysSoForgets() {
-        ClockNet x = star(18);
+        ClockNet x = Nets.star(18);
         Check.due("18: has a mean", x.look(2, 4), 1);
         Check.due("18: slave", x.look(2, 2), 1);
         x.grade(3, 1, 1, 0);
-        Check.ticks(x, 4);
+        Nets.ticks(x, 4);
         Check.due("22: has a mean", x.look(2, 4), 1);
         x.tick();
         Check.due("23: the same port", x.look(2, 2), 1);
@@ -527,7 +477,7 @@ public final class TickTest {
         x.clock(2, 0, 0, 0);
         x.link(0, 1, 1, 1);
         x.link(0, 1, 1, 1);
-        Check.ticks(x, 12);
+        Nets.ticks(x, 12);
         Check.due("its own announcement is not heard", x.heard(0, 0, 0), -1);
         Check.due("its own announcement is not heard", x.heard(0, 1, 0), -1);
         Check.due("it leads", x.port(0, 1), 1);
@@ -541,7 +491,7 @@ public final class TickTest {
         for (int l = 0; l < 7; l++) {
             x.link(l, l + 1, 1, 1);
         }
-        Check.ticks(x, 80);
+        Nets.ticks(x, 80);
         for (int c = 0; c < 7; c++) {
             Check.due("best of " + c, x.look(c, 0), 0);
             Check.due("steps of " + c, x.look(c, 1), c);
@@ -557,7 +507,7 @@ public final class TickTest {
         x.clock(1, 20, 6, 0);
         x.link(0, 1, 2, 1);
         x.link(0, 1, 1, 1);
-        Check.ticks(x, 5);
+        Nets.ticks(x, 5);
         Check.due("5: only the faster link has come", x.look(1, 2), 1);
         x.tick();
         Check.due("6: the lowest link of two equal ones", x.look(1, 2), 0);
@@ -573,7 +523,7 @@ public final class TickTest {
         x.link(0, 1, 1, 1);
         x.link(0, 2, 1, 1);
         x.link(1, 2, 1, 1);
-        Check.ticks(x, 20);
+        Nets.ticks(x, 20);
         Check.due("1 follows 0", x.look(1, 2), 0);
         Check.due("2 follows 0", x.look(2, 2), 1);
         // Both are one step away; what 1 says of it is better than what 2 says.
@@ -592,7 +542,7 @@ public final class TickTest {
         x.clock(0, 30, 8, 0);
         x.link(0, 1, 1, 1);
         x.link(1, 2, 1, 1);
-        Check.ticks(x, 9);
+        Nets.ticks(x, 9);
         Check.due("heard priority", x.heard(2, 1, 0), 10);
         Check.due("heard class", x.heard(2, 1, 1), 6);
         Check.due("heard best", x.heard(2, 1, 2), 0);
@@ -601,41 +551,41 @@ public final class TickTest {
         Check.due("steps", x.look(2, 1), 2);
         x.set(0, 500000);
         // Clock 2 asked while clock 1 jumped: its mean is far off at first and comes near slowly.
-        Check.ticks(x, 150);
+        Nets.ticks(x, 150);
         Check.due("the time is passed on", Math.abs(x.reading(1) - x.reading(0)) < 100 ? 1 : 0, 1);
         Check.due("and on", Math.abs(x.reading(2) - x.reading(0)) < 100 ? 1 : 0, 1);
     }
 
     private static void transparentClockAddsWhatItHeld() {
-        ClockNet x = star(10);
+        ClockNet x = Nets.star(10);
         Check.due("10: request open", x.look(2, 5), 1);
         x.tick();
-        int r = Check.find(x, REQUEST, 2);
+        int r = Nets.find(x, Nets.REQUEST, 2);
         Check.due("11: request is passed on", x.message(r, 4), 1);
         Check.due("11: with what it was held", x.stamp(r, true), 1000);
         Check.due("11: to the receiver", x.message(r, 2), 0);
         Check.due("11: one tick later", x.message(r, 7), 13);
-        Check.ticks(x, 2);
-        int a = Check.find(x, ANSWER, 0);
+        Nets.ticks(x, 2);
+        int a = Nets.find(x, Nets.ANSWER, 0);
         Check.due("13: the answer has the correction of the request", x.stamp(a, true), 1000);
         Check.due("13: but not its hops", x.message(a, 4), 0);
         Check.due("13: time of the answer", x.stamp(a, false), 13000);
-        Check.ticks(x, 3);
+        Nets.ticks(x, 3);
         // LAG is 3000 - 1000 - 1000, BACK is 3000 - 2000.
         Check.dueFloat("16: mean", x.mean(2), 1000.0f);
-        Check.ticks(x, 4);
+        Nets.ticks(x, 4);
         Check.due("20: no error, no adjust", x.look(2, 3), 0);
     }
 
     private static void transparentClockSendsOverEachOther() {
-        ClockNet x = star(2);
+        ClockNet x = Nets.star(2);
         Check.due("2: syncs and follows", x.count(0), 6);
         Check.due("3: they come", x.tick(), 6);
         Check.due("3: each goes on over two links", x.count(0), 12);
         Check.due("3: of clock 0, by link", x.message(0, 5), 1);
         Check.due("3: of clock 0, by link", x.message(1, 5), 2);
-        Check.due("3: type", x.message(1, 0), SYNC);
-        Check.due("3: then the follow", x.message(2, 0), FOLLOW);
+        Check.due("3: type", x.message(1, 0), Nets.SYNC);
+        Check.due("3: then the follow", x.message(2, 0), Nets.FOLLOW);
         Check.due("3: of clock 2, not back", x.message(4, 5), 0);
         Check.due("3: of clock 2, not back", x.message(5, 5), 2);
         Check.due("3: time stays", x.stamp(2, false), 2000);
@@ -646,37 +596,24 @@ public final class TickTest {
         y.clock(2, 0, 0, 0);
         y.clock(0, 0, 0, 0);
         y.link(1, 0, 1, 1);
-        Check.ticks(y, 2);
+        Nets.ticks(y, 2);
         Check.due("to a transparent clock without another link", y.tick(), 2);
         Check.due("is not lost", y.count(1), 0);
         Check.due("but gone", y.count(0), 0);
     }
 
-    private static ClockNet chain(int transparent) {
-        ClockNet x = new ClockNet();
-        x.clock(0, 10, 6, 0);
-        for (int i = 0; i < transparent; i++) {
-            x.clock(2, 0, 0, 0);
-        }
-        x.clock(0, 20, 6, 0);
-        for (int l = 0; l <= transparent; l++) {
-            x.link(l, l + 1, 1, 1);
-        }
-        return x;
-    }
-
     private static void fourHopsAreTheMost() {
-        ClockNet x = chain(4);
-        Check.ticks(x, 30);
+        ClockNet x = Nets.chain(4);
+        Nets.ticks(x, 30);
         Check.due("over four transparent clocks", x.look(5, 0), 0);
         Check.due("nothing is lost", x.count(1), 0);
-        ClockNet y = chain(5);
-        Check.ticks(y, 10);
+        ClockNet y = Nets.chain(5);
+        Nets.ticks(y, 10);
         Check.due("10: nothing is lost yet", y.count(1), 0);
         // What was sent at tick 2 comes to the fifth at 2 + 1 + 4 * 2.
         Check.due("11: it comes all the same", y.tick() >= 4 ? 1 : 0, 1);
         Check.due("11: two of each end are lost", y.count(1), 4);
-        Check.ticks(y, 19);
+        Nets.ticks(y, 19);
         Check.due("over five transparent clocks", y.look(6, 0), 6);
     }
 
@@ -687,14 +624,14 @@ public final class TickTest {
         for (int l = 0; l < 10; l++) {
             x.link(0, 1, 5, 5);
         }
-        Check.ticks(x, 3);
+        Nets.ticks(x, 3);
         Check.due("3: on links", x.count(0), 40);
         x.tick();
         Check.due("4: on links", x.count(0), 60);
         Check.due("4: lost", x.count(1), 40);
         Check.due("4: the last one that found room", x.message(59, 1), 0);
         Check.due("4: the last one that found room", x.message(59, 5), 6);
-        Check.due("4: the last one that found room", x.message(59, 0), SYNC);
+        Check.due("4: the last one that found room", x.message(59, 0), Nets.SYNC);
         Check.due("4: no more", x.message(60, 0), -1);
     }
 
@@ -709,19 +646,19 @@ public final class TickTest {
         for (int l = 3; l < 10; l++) {
             x.link(1, 2, 5, 5);
         }
-        Check.ticks(x, 4);
+        Nets.ticks(x, 4);
         Check.due("4: full", x.count(0), 60);
         Check.due("4: lost", x.count(1), 27);
         Check.due("5: three come", x.tick(), 3);
         Check.due("5: full again", x.count(0), 60);
         Check.due("5: each found the room that it left, for one of two", x.count(1), 30);
-        Check.due("5: the last stands behind all others", x.message(59, 0), FOLLOW);
+        Check.due("5: the last stands behind all others", x.message(59, 0), Nets.FOLLOW);
         Check.due("5: the last stands behind all others", x.message(59, 4), 1);
         Check.due("5: it went over the first of two links", x.message(59, 5), 1);
     }
 
     private static void downLinkLosesWhatIsPassedOn() {
-        ClockNet x = star(2);
+        ClockNet x = Nets.star(2);
         x.join(1, false);
         Check.due("those on the link are lost", x.count(1), 2);
         Check.due("the others come", x.tick(), 4);
