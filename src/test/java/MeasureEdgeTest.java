@@ -47,6 +47,24 @@ public final class MeasureEdgeTest {
         Check.dueFloat("29: nothing comes", x.sum(2), sum);
         x.tick();
         Check.holds("30: follow 24 is of the latest", x.sum(2) != sum);
+        announcementsLeaveTheSyncOpen();
+    }
+
+    /** Between sync 22 and its follow two announcements come, at 26 by the slow way and at 27 by the fast one. */
+    private static void announcementsLeaveTheSyncOpen() {
+        ClockNet x = Nets.twoWays(22);
+        Nets.loseOn(x, Nets.SYNC, 22, 1);
+        Nets.loseOn(x, Nets.FOLLOW, 22, 0);
+        Nets.loseOn(x, Nets.SYNC, 20, 1);
+        Nets.loseOn(x, Nets.FOLLOW, 20, 1);
+        Nets.ticks(x, 2);
+        Nets.loseOn(x, Nets.SYNC, 24, 0);
+        Nets.loseOn(x, Nets.FOLLOW, 24, 0);
+        Nets.ticks(x, 3);
+        Check.due("27: an announcement came", x.heard(2, 2, 5), 27);
+        float sum = x.sum(2);
+        x.tick();
+        Check.holds("28: follow 22 is of the latest", x.sum(2) != sum);
     }
 
     private static void latestLag() {

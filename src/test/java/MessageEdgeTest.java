@@ -138,6 +138,13 @@ public final class MessageEdgeTest {
         ClockNet y = Nets.pair(3);
         y.join(0, false);
         Check.due("none was on it", y.count(1), 0);
+        ClockNet full = crowded(0);
+        Check.due("sixty: on links", full.count(0), 60);
+        full.join(0, false);
+        Check.due("sixty: those of 2 and the announcement, sync and follow of 4", full.count(0), 60 - 4 - 3);
+        full.join(9, false);
+        Check.due("sixty: those of 2 alone", full.count(0), 60 - 4 - 3 - 4);
+        Check.due("sixty: lost", full.count(1), 40 + 11);
     }
 
     private static void comesToADownClock() {
@@ -587,6 +594,10 @@ public final class MessageEdgeTest {
         none.power(1, true);
         none.tick();
         Check.due("8: no request was open", none.look(1, 4), 0);
+        // Clock 2's request 6 comes to clock 1, whose own request has the same number.
+        ClockNet middle = Nets.row(3, 7);
+        Check.due("7: it is not the answer", middle.look(1, 5), 1);
+        Check.due("7: nor makes a mean", middle.look(1, 4), 0);
     }
 
     private static void allElseIsZero() {

@@ -61,7 +61,7 @@ final class Nets {
         return x;
     }
 
-    /** What clock 0 sends comes to clock 2 twice, over the transparent clock 1: after 3 ticks by link 0, 6 by link 1. */
+    /** What clock 0 sends comes to clock 2 over the transparent clock 1 twice: 3 ticks later, and 6 later by link 1. */
     static ClockNet twoWays(int ticks) {
         ClockNet x = new ClockNet();
         x.clock(1, 10, 6, 0);
