@@ -26,7 +26,7 @@ public final class CallEdgeTest {
     }
 
     private static void promises1To9() {
-        Check.sentence("`ClockNet()`: No clocks, no links.", CallEdgeTest::newObject);
+        Check.sentence("No clocks, no links.", CallEdgeTest::newObject);
         Check.sentence("A new clock: its number.", CallEdgeTest::newClock);
         Check.sentence("A new link between clocks a and b (they may have one already)", CallEdgeTest::secondLink);
         Check.sentence("with delays from a to b and from b to a: its number", CallEdgeTest::delaysEachWay);
@@ -50,10 +50,10 @@ public final class CallEdgeTest {
     private static void promises10To19() {
         Check.sentence("NoSuchElementException also if the clock is transparent or has not that link.",
                 CallEdgeTest::noSuchPort);
-        Check.sentence("what 0 .. 4 its five numbers, 5 the tick when it was heard; -1 if there is none.",
-                CallEdgeTest::heardOrNone);
+        Check.sentence("The grade heard at a port: what 0 .. 4 its five numbers, 5 the tick when it was heard; -1 if"
+                + " there is none.", CallEdgeTest::heardOrNone);
         Check.sentence("IllegalArgumentException: another what (tested last).", CallEdgeTest::heardAnotherWhat);
-        Check.sentence("what 0: its best clock (itself before its first decision), 1: the steps to it",
+        Check.sentence("Of a clock: what 0: its best clock (itself before its first decision), 1: the steps to it",
                 CallEdgeTest::bestBeforeTheFirstDecision);
         Check.sentence("2: the link of its slave port (-1: none)", CallEdgeTest::slavePortOrNone);
         Check.sentence("3: ADJUST, 4: 1 if it has a mean, else 0; 5: 1 if a request is open, else 0.",

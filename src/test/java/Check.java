@@ -1,7 +1,11 @@
+import java.util.ArrayList;
+import java.util.List;
 import java.util.NoSuchElementException;
 
 /** What the tests share: each answer that is not the one that is due is printed, and one such makes exit code 1. */
 final class Check {
+    private static final List<String> QUOTED = new ArrayList<>();
+    private static boolean onlyQuotes = false;
     private static String sentence = "";
     private static int made = 0;
     private static int wrong = 0;
@@ -11,6 +15,10 @@ final class Check {
 
     /** Runs the test of one sentence of the document; whatever it finds wrong is told together with that sentence. */
     static void sentence(String words, Runnable test) {
+        QUOTED.add(words);
+        if (onlyQuotes) {
+            return;
+        }
         sentence = words;
         int before = made;
         try {
@@ -22,6 +30,15 @@ final class Check {
             tell("nothing was checked");
         }
         sentence = "";
+    }
+
+    /** The sentences whose tests a table of tests has, of which none is run. */
+    static List<String> quotes(Runnable table) {
+        QUOTED.clear();
+        onlyQuotes = true;
+        table.run();
+        onlyQuotes = false;
+        return new ArrayList<>(QUOTED);
     }
 
     static void due(String call, long got, long want) {
@@ -76,6 +93,9 @@ final class Check {
     }
 
     static void end(String name) {
+        if (onlyQuotes) {
+            return;
+        }
         System.out.println(name + ": " + made + " checks, " + wrong + " wrong");
         if (wrong != 0) {
             System.exit(1);

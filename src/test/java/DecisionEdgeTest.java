@@ -13,7 +13,7 @@ public final class DecisionEdgeTest {
                 DecisionEdgeTest::firstOfTheFive);
         Check.sentence("A clock's OWN grade is its priority, its class, its number, 0, its number.",
                 DecisionEdgeTest::ownGrade);
-        Check.sentence("1. NOW grows by 1, and all readings grow.", DecisionEdgeTest::readingsGrowFirst);
+        Check.sentence("A TICK: 1. NOW grows by 1, and all readings grow.", DecisionEdgeTest::readingsGrowFirst);
         Check.sentence("3. Each clock that is up and not transparent, by number: its ports, by link",
                 DecisionEdgeTest::whoDecides);
         Check.sentence("a heard grade that is 12 ticks old or older is gone", DecisionEdgeTest::twelveTicksOld);

@@ -38,6 +38,7 @@ public final class FaceTest {
         constructorIsAlone();
         methodsAreThoseOfTheDocument();
         fieldsArePrivate();
+        classesInsideAreStatic();
         Check.end("FaceTest");
     }
 
@@ -74,6 +75,15 @@ public final class FaceTest {
             Check.due(f.getName() + " is private", isPrivate(f) ? 1 : 0, 1);
             boolean changing = Modifier.isStatic(f.getModifiers()) && !Modifier.isFinal(f.getModifiers());
             Check.due(f.getName() + " is static and changes", changing ? 1 : 0, 0);
+        }
+    }
+
+    private static void classesInsideAreStatic() {
+        for (Class<?> inside : ClockNet.class.getDeclaredClasses()) {
+            int modifiers = inside.getModifiers();
+            String name = inside.getSimpleName();
+            Check.holds(name + " is static", Modifier.isStatic(modifiers));
+            Check.holds(name + " is hidden", !Modifier.isPublic(modifiers) && !Modifier.isProtected(modifiers));
         }
     }
 

@@ -11,7 +11,8 @@ public final class MeasureEdgeTest {
                 MeasureEdgeTest::lagLessBothCorrections);
         Check.sentence("then the clock is STEERED, if it has a mean", MeasureEdgeTest::steeredWithAMean);
         Check.sentence("if there is a LAG, BACK is its TIME - SENT - its CORRECTION", MeasureEdgeTest::answerWithALag);
-        Check.sentence("SAMPLE is (float) ((LAG + BACK) / 2), in longs, rest dropped", MeasureEdgeTest::restDropped);
+        Check.sentence("and SAMPLE is (float) ((LAG + BACK) / 2), in longs, rest dropped",
+                MeasureEdgeTest::restDropped);
         Check.sentence("the mean becomes SAMPLE, if there was none, else mean + (SAMPLE - mean) * 0.25f",
                 MeasureEdgeTest::firstMeanAndNext);
         Check.sentence("If E is above 5000 or below -5000: ", MeasureEdgeTest::fiveThousand);

@@ -20,7 +20,7 @@ public final class MessageEdgeTest {
                 + " hops", MessageEdgeTest::oneTickLater);
         Check.sentence("ANNOUNCE: if the best clock in its grade is the clock itself", MessageEdgeTest::bestIsItself);
         Check.sentence("or STEPS is 6 or more, nothing", MessageEdgeTest::stepsAtMostFive);
-        Check.sentence("if the port has heard no grade, ", MessageEdgeTest::noGradeHeard);
+        Check.sentence("Otherwise, if the port has heard no grade, ", MessageEdgeTest::noGradeHeard);
         Check.sentence("or the sender is the one that said the heard grade", MessageEdgeTest::sameSender);
         Check.sentence("or the message's grade is better, that grade is heard, NOW", MessageEdgeTest::betterGrade);
         Check.sentence("SYNC, if the port is a slave and the sender said the heard grade",
